@@ -305,6 +305,9 @@ public final class PromiseTest {
         due("9 empty behind", x.come(1, 192), 0);
         due("9 nothing harmed", send(x, 1, bytes(220, 192)), 1);
         row("9 behind the mark", latest(x, 1), bytes(220));
+        due("9 spoilt inside", send(x, 1, bytes(219, 5, 6, 192)), 2);
+        due("9 nothing harmed", send(x, 1, bytes(7, 192)), 1);
+        row("9 behind the mark", latest(x, 1), bytes(7));
     }
 
     private static void promise9ComeWay2() {
@@ -326,11 +329,15 @@ public final class PromiseTest {
         reads(2, join(bytes(125, '1' ^ 32), "23456789".getBytes(), bytes(0x6E, 125, 0x90 ^ 32, 126)), 1,
                 "123456789".getBytes());
         reads(2, join(bytes(125, 125), checkOf(bytes(93)), bytes(126)), 2, null);
+        reads(2, join(bytes(125, 125, 94), escapedCheck(126), bytes(126)), 2, null);
+        reads(2, join(bytes(125, 125), nine), 2, null);
         reads(2, join(bytes(125, 93), escapedCheck(125), bytes(126)), 1, bytes(125));
         reads(2, join(bytes(125, 94), escapedCheck(126), bytes(126)), 1, bytes(126));
         FramingTrio x = new FramingTrio();
         due("9 spoilt", send(x, 2, bytes(1, 2, 125, 126)), 2);
         due("9 empty behind", x.come(2, 126), 0);
+        due("9 nothing harmed", send(x, 2, nine), 1);
+        due("9 spoilt inside", send(x, 2, bytes(125, 125, 1, 126)), 2);
         due("9 nothing harmed", send(x, 2, nine), 1);
     }
 
