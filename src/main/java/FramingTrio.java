@@ -135,7 +135,8 @@ public final class FramingTrio {
 
     private int drain(Row from, Way chosen) {
         int good = 0;
-        for (int i = 0; i < from.size; i++) {
+        int length = from.size;
+        for (int i = 0; i < length; i++) {
             if (chosen.take(from.byteAt(i), most) == GOOD) {
                 good++;
             }
@@ -292,11 +293,11 @@ public final class FramingTrio {
             missing = 0;
         }
 
-        @Override
         void frame(Row from, Row to) {
+            int length = from.size;
             int start = 0;
             boolean behindFull = false;
-            for (int i = 0; i < from.size; i++) {
+            for (int i = 0; i < length; i++) {
                 if (from.byteAt(i) == 0) {
                     writeGroup(from, start, i, to);
                     start = i + 1;
@@ -307,8 +308,8 @@ public final class FramingTrio {
                     behindFull = true;
                 }
             }
-            if (start < from.size || !behindFull) {
-                writeGroup(from, start, from.size, to);
+            if (start < length || !behindFull) {
+                writeGroup(from, start, length, to);
             }
             to.put(MARK);
         }
@@ -320,7 +321,6 @@ public final class FramingTrio {
             }
         }
 
-        @Override
         void decode(int b) {
             if (missing > 0) {
                 payload.put(b);
@@ -339,12 +339,10 @@ public final class FramingTrio {
             missing = b - 1;
         }
 
-        @Override
         boolean isWhole() {
             return header != 0 && missing == 0;
         }
 
-        @Override
         void forgetChunk() {
             header = 0;
             missing = 0;
@@ -365,9 +363,9 @@ public final class FramingTrio {
             escaping = false;
         }
 
-        @Override
         void frame(Row from, Row to) {
-            for (int i = 0; i < from.size; i++) {
+            int length = from.size;
+            for (int i = 0; i < length; i++) {
                 writeByte(from.byteAt(i), to);
             }
             to.put(MARK);
@@ -385,7 +383,6 @@ public final class FramingTrio {
             }
         }
 
-        @Override
         void decode(int b) {
             if (escaping) {
                 escaping = false;
@@ -407,12 +404,10 @@ public final class FramingTrio {
             }
         }
 
-        @Override
         boolean isWhole() {
             return !escaping;
         }
 
-        @Override
         void forgetChunk() {
             escaping = false;
         }
@@ -443,10 +438,10 @@ public final class FramingTrio {
             newer = 0;
         }
 
-        @Override
         void frame(Row from, Row to) {
+            int length = from.size;
             int sum = CHECK_START;
-            for (int i = 0; i < from.size; i++) {
+            for (int i = 0; i < length; i++) {
                 int b = from.byteAt(i);
                 sum = addToCheck(sum, b);
                 writeByte(b, to);
@@ -478,7 +473,6 @@ public final class FramingTrio {
             return sum ^ CHECK_START;
         }
 
-        @Override
         void decode(int b) {
             if (escaping) {
                 escaping = false;
@@ -505,12 +499,10 @@ public final class FramingTrio {
             newer = b;
         }
 
-        @Override
         boolean isWhole() {
             return !escaping && payload.size > 0 && finishedCheck(check) == (older | (newer << 8));
         }
 
-        @Override
         void forgetChunk() {
             escaping = false;
             check = CHECK_START;
