@@ -18,7 +18,10 @@ public final class FaceTest {
             "int written()", "int writtenAt(int)", "boolean spoil(int,int)", "int come(int,int)", "int all(int)",
             "int raw(int)", "int latest(int)", "int latestAt(int,int)", "int count(int,int)");
     private static final Pattern FORBIDDEN = Pattern.compile(
-            "\\b(throw|throws|try|catch|synchronized|assert|import|package|protected|hashCode|equals)\\b|->|::");
+            "\\b(throw|throws|try|catch|synchronized|assert|package|protected|hashCode)\\b|->|::"
+            + "|\\bimport\\s+(?!java\\.util\\.(ArrayList|List|Iterator|Arrays)\\s*;).*");
+    /** A switch may have arrows; a lambda's is forbidden. */
+    private static final String SWITCH_ARROW = "\\b(case\\b[^:;{}]*?|default\\s*)->";
     private static int wrong = 0;
 
     public static void main(String[] args) throws IOException {
@@ -63,7 +66,8 @@ public final class FaceTest {
 
     private static void noForbiddenWords() throws IOException {
         String source = Files.readString(Path.of("src/main/java/FramingTrio.java"));
-        String code = source.replaceAll("(?s)/\\*.*?\\*/", "").replaceAll("//.*", "");
+        String code = source.replaceAll("(?s)/\\*.*?\\*/", "").replaceAll("//.*", "")
+                .replaceAll(SWITCH_ARROW, "");
         Matcher m = FORBIDDEN.matcher(code);
         while (m.find()) {
             check(false, "forbidden in the source: " + m.group());

@@ -7,44 +7,40 @@ import java.util.Random;
  * Mixed runs of 512 calls, each answer beside that of a plain model. The model keeps whole chunks
  * and judges them at the mark, where the program decodes as it reads.
  */
-public final class ModelTest {
-    private static final int RUNS = 3000;
-    private static final int CALLS = 512;
+public final class ModelTest extends FramingTest {
+    private static final int RUNS = 6000;
+    private static final int WRONG_ENOUGH = 20;
+    /** What comparing all but single bytes needs at a run's end. */
+    private static final int CALLS_TO_COMPARE = 31;
     /** Marks, escapes and their neighbours come often, as chance alone would seldom bring them. */
     private static final int[] TELLING = {0, 1, 2, 3, 93, 94, 125, 126, 192, 219, 220, 221, 254, 255};
     private static final int[] ODD = {-1, 3, Integer.MIN_VALUE, Integer.MAX_VALUE};
     private static final int[] VERDICTS_SEEN = new int[4];
 
-    private static int wrong = 0;
-
     public static void main(String[] args) {
-        for (int run = 0; run < RUNS && wrong < 20; run++) {
+        about("run/call");
+        for (int run = 0; run < RUNS && wrongAnswers() < WRONG_ENOUGH; run++) {
             runBeside(run);
         }
         for (int verdict = 0; verdict < 4; verdict++) {
-            if (VERDICTS_SEEN[verdict] < 1000) {
-                wrong++;
-                System.out.println("verdict " + verdict + " came too seldom to be tested");
-            }
+            due("verdict " + verdict + " came often", VERDICTS_SEEN[verdict] >= 1000, true);
         }
-        System.out.println(wrong == 0 ? "all answers are as due" : wrong + " answers are not as due");
-        if (wrong != 0) {
-            System.exit(1);
-        }
+        finish();
     }
 
     private static void runBeside(int seed) {
         Random random = new Random(seed);
-        FramingTrio x = new FramingTrio();
+        CountedTrio x = new CountedTrio();
         Model m = new Model();
         int taste = random.nextInt(4);
-        for (int call = 0; call < CALLS && wrong < 20; call++) {
+        int callsLeftAtEnd = CALLS_TO_COMPARE + random.nextInt(300);
+        for (int call = 0; x.callsLeft() > callsLeftAtEnd && wrongAnswers() < WRONG_ENOUGH; call++) {
             oneCall(random, x, m, taste, seed + "/" + call);
         }
-        compareState(x, m, "at the end of " + seed);
+        compareState(random, x, m, "at the end of " + seed);
     }
 
-    private static void oneCall(Random random, FramingTrio x, Model m, int taste, String at) {
+    private static void oneCall(Random random, CountedTrio x, Model m, int taste, String at) {
         int way = random.nextInt(30) == 0 ? ODD[random.nextInt(4)] : random.nextInt(3);
         switch (random.nextInt(16)) {
             case 0, 1, 2, 3, 4 -> {
@@ -88,24 +84,31 @@ public final class ModelTest {
                 int what = random.nextInt(6) - 1;
                 due(at + " count " + way + " " + what, x.count(way, what), m.count(way, what));
             }
-            default -> compareState(x, m, at);
+            default -> compareOneByte(random, x, m, at);
         }
     }
 
-    private static void compareState(FramingTrio x, Model m, String at) {
+    private static void compareState(Random random, CountedTrio x, Model m, String at) {
         due(at + " written", x.written(), m.stream.size());
-        for (int i = -1; i <= m.stream.size(); i++) {
-            due(at + " writtenAt " + i, x.writtenAt(i), at(m.stream, i));
-        }
         for (int way = -1; way <= 3; way++) {
-            List<Integer> kept = way < 0 || way > 2 ? null : m.kept.get(way);
-            due(at + " latest " + way, x.latest(way), kept == null ? -1 : kept.size());
-            for (int i = -1; i <= (kept == null ? 0 : kept.size()); i++) {
-                due(at + " latestAt " + way + " " + i, x.latestAt(way, i), kept == null ? -1 : at(kept, i));
-            }
+            due(at + " latest " + way, x.latest(way), m.latest(way));
             for (int what = 0; what <= 4; what++) {
                 due(at + " count " + way + " " + what, x.count(way, what), m.count(way, what));
             }
+        }
+        while (x.callsLeft() > 0) {
+            compareOneByte(random, x, m, at);
+        }
+    }
+
+    private static void compareOneByte(Random random, CountedTrio x, Model m, String at) {
+        int way = random.nextInt(5) - 1;
+        if (way == 3) {
+            int i = random.nextInt(m.stream.size() + 2) - 1;
+            due(at + " writtenAt " + i, x.writtenAt(i), at(m.stream, i));
+        } else {
+            int i = random.nextInt(Math.max(0, m.latest(way)) + 2) - 1;
+            due(at + " latestAt " + way + " " + i, x.latestAt(way, i), m.latestAt(way, i));
         }
     }
 
@@ -114,7 +117,7 @@ public final class ModelTest {
     }
 
     private static int mark(int way) {
-        return way == 0 ? 0 : way == 1 ? 192 : 126;
+        return way < 0 || way > 2 ? 126 : MARKS[way];
     }
 
     private static int number(Random random, int taste) {
@@ -132,17 +135,6 @@ public final class ModelTest {
             case 2 -> random.nextInt(200) == 0 ? random.nextInt(256) : 77;
             default -> random.nextInt(5) == 0 ? TELLING[random.nextInt(TELLING.length)] : 1 + random.nextInt(4);
         };
-    }
-
-    private static void due(String call, boolean got, boolean want) {
-        due(call, got ? 1 : 0, want ? 1 : 0);
-    }
-
-    private static void due(String call, int got, int want) {
-        if (got != want) {
-            wrong++;
-            System.out.println("run/call " + call + " answered " + got + ", due is " + want);
-        }
     }
 
     private static final class Model {
@@ -356,6 +348,14 @@ public final class ModelTest {
                 good += verdict == 1 ? 1 : 0;
             }
             return good;
+        }
+
+        int latest(int way) {
+            return way < 0 || way > 2 || kept.get(way) == null ? -1 : kept.get(way).size();
+        }
+
+        int latestAt(int way, int i) {
+            return latest(way) < 0 ? -1 : at(kept.get(way), i);
         }
 
         int count(int way, int what) {

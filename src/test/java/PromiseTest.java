@@ -1,12 +1,9 @@
-import java.io.ByteArrayOutputStream;
 import java.util.Arrays;
 
 /** For each promise of the document: ordinary inputs, the edges it names, and wrong inputs. */
-public final class PromiseTest {
-    private static final int[] NO_WAYS = {-1, 3, 4, 256, Integer.MIN_VALUE, Integer.MAX_VALUE};
-    private static int wrong = 0;
-
+public final class PromiseTest extends FramingTest {
     public static void main(String[] args) {
+        about("promise");
         promise1NewObject();
         promise2Feed();
         promise3End();
@@ -27,14 +24,11 @@ public final class PromiseTest {
         promise11Raw();
         promise12And13Latest();
         promise14Count();
-        System.out.println(wrong == 0 ? "all answers are as due" : wrong + " answers are not as due");
-        if (wrong != 0) {
-            System.exit(1);
-        }
+        finish();
     }
 
     private static void promise1NewObject() {
-        FramingTrio x = new FramingTrio();
+        CountedTrio x = new CountedTrio();
         due("1 NONE", FramingTrio.NONE, -1);
         due("1 written", x.written(), 0);
         due("1 writtenAt", x.writtenAt(0), -1);
@@ -49,22 +43,22 @@ public final class PromiseTest {
                 due("1 count " + way + " " + what, x.count(way, what), 0);
             }
         }
-        FramingTrio other = new FramingTrio();
+        CountedTrio other = new CountedTrio();
         other.come(0, 0);
         other.limit(1);
-        due("1 objects are apart", new FramingTrio().count(0, 2), 0);
-        due("1 limit is 400 at first", tellLength(new FramingTrio(), 1, filled(400, 7)), 401);
+        due("1 objects are apart", new CountedTrio().count(0, 2), 0);
+        due("1 limit is 400 at first", layAndTell(new CountedTrio(), 1, filled(400, 7)), 401);
     }
 
     private static void promise2Feed() {
-        FramingTrio x = new FramingTrio();
+        CountedTrio x = new CountedTrio();
         due("2 feed", x.feed(0x81828384, 0x05060708, 0x090A0B0C, 0x0D0E0F10, 0x111213FF), true);
         due("2 twenty bytes", x.end(21), false);
         due("2 told", x.tell(1), 21);
         row("2 highest first", written(x), bytes(0x81, 0x82, 0x83, 0x84, 5, 6, 7, 8, 9, 10, 11, 12,
                 13, 14, 15, 16, 17, 18, 19, 255, 192));
 
-        x = new FramingTrio();
+        x = new CountedTrio();
         for (int i = 0; i < 20; i++) {
             due("2 feed " + i, x.feed(i, i, i, i, i), true);
         }
@@ -80,7 +74,7 @@ public final class PromiseTest {
     }
 
     private static void promise3End() {
-        FramingTrio x = new FramingTrio();
+        CountedTrio x = new CountedTrio();
         x.feed(0x01020304, 0x05060708, 0, 0, 0);
         due("3 below 0", x.end(-1), false);
         due("3 lowest", x.end(Integer.MIN_VALUE), false);
@@ -99,20 +93,20 @@ public final class PromiseTest {
     }
 
     private static void promise4Limit() {
-        FramingTrio x = new FramingTrio();
+        CountedTrio x = new CountedTrio();
         due("4 0", x.limit(0), false);
         due("4 -1", x.limit(-1), false);
         due("4 401", x.limit(401), false);
         due("4 lowest", x.limit(Integer.MIN_VALUE), false);
         due("4 highest", x.limit(Integer.MAX_VALUE), false);
-        due("4 unchanged", tellLength(x, 1, filled(400, 7)), 401);
+        due("4 unchanged", layAndTell(x, 1, filled(400, 7)), 401);
         due("4 1", x.limit(1), true);
-        due("4 one byte", tellLength(x, 1, filled(1, 7)), 403);
-        due("4 two bytes", tellLength(x, 1, filled(2, 7)), -1);
+        due("4 one byte", layAndTell(x, 1, filled(1, 7)), 403);
+        due("4 two bytes", layAndTell(x, 1, filled(2, 7)), -1);
         due("4 401 again", x.limit(401), false);
-        due("4 still 1", tellLength(x, 1, filled(2, 7)), -1);
+        due("4 still 1", layAndTell(x, 1, filled(2, 7)), -1);
         due("4 400", x.limit(400), true);
-        due("4 400 bytes", tellLength(x, 1, filled(400, 7)), 804);
+        due("4 400 bytes", layAndTell(x, 1, filled(400, 7)), 804);
     }
 
     private static void promise5TellWay0() {
@@ -148,13 +142,13 @@ public final class PromiseTest {
 
     private static void promise5TellWay2() {
         tells(2, "123456789".getBytes(), join("123456789".getBytes(), bytes(0x6E, 0x90, 126)));
-        tells(2, bytes(126), join(bytes(125, 94), escapedCheck(126), bytes(126)));
-        tells(2, bytes(125), join(bytes(125, 93), escapedCheck(125), bytes(126)));
+        tells(2, bytes(126), join(bytes(125, 94), toldCheck(bytes(126)), bytes(126)));
+        tells(2, bytes(125), join(bytes(125, 93), toldCheck(bytes(125)), bytes(126)));
         // Single bytes run the check through every value of its lower byte, 125 and 126 among them.
         boolean escaped = false;
         for (int b = 0; b < 256; b++) {
             if (b != 125 && b != 126) {
-                byte[] check = escapedCheck(b);
+                byte[] check = toldCheck(bytes(b));
                 escaped |= check.length > 2;
                 tells(2, bytes(b), join(bytes(b), check, bytes(126)));
             }
@@ -164,16 +158,16 @@ public final class PromiseTest {
 
     private static void promise5TellRefuses() {
         for (int way : NO_WAYS) {
-            FramingTrio x = new FramingTrio();
+            CountedTrio x = new CountedTrio();
             x.feed(1, 2, 3, 4, 5);
             due("5 no way " + way, x.tell(way), -1);
             due("5 nothing written " + way, x.written(), 0);
             due("5 tape empty " + way, x.end(1), false);
         }
         for (int way = 0; way < 3; way++) {
-            FramingTrio x = new FramingTrio();
+            CountedTrio x = new CountedTrio();
             due("5 empty payload " + way, x.tell(way), way == 0 ? 2 : -1);
-            x = new FramingTrio();
+            x = new CountedTrio();
             x.limit(19);
             x.feed(1, 2, 3, 4, 5);
             due("5 above the limit " + way, x.tell(way), -1);
@@ -187,30 +181,30 @@ public final class PromiseTest {
     }
 
     private static void promise5TellRoom() {
-        FramingTrio x = new FramingTrio();
+        CountedTrio x = new CountedTrio();
         for (int i = 1; i <= 4; i++) {
-            due("5 room " + i, tellLength(x, 1, filled(400, 7)), 401 * i);
+            due("5 room " + i, layAndTell(x, 1, filled(400, 7)), 401 * i);
         }
-        due("5 2001", tellLength(x, 1, filled(396, 7)), -1);
+        due("5 2001", layAndTell(x, 1, filled(396, 7)), -1);
         due("5 still 1604", x.written(), 1604);
         due("5 nothing behind", x.writtenAt(1604), -1);
         due("5 tape empty", x.end(1), false);
-        due("5 escaped 2001", tellLength(x, 1, join(filled(394, 7), bytes(192))), -1);
-        due("5 escaped 2000", tellLength(x, 1, join(filled(393, 7), bytes(192))), 2000);
+        due("5 escaped 2001", layAndTell(x, 1, join(filled(394, 7), bytes(192))), -1);
+        due("5 escaped 2000", layAndTell(x, 1, join(filled(393, 7), bytes(192))), 2000);
         due("5 full", x.written(), 2000);
         due("5 last byte", x.writtenAt(1999), 192);
         due("5 nothing behind 2000", x.writtenAt(2000), -1);
         due("5 way 0 behind", x.tell(0), -1);
         due("5 all", x.all(1), 5);
-        due("5 room again", tellLength(x, 2, bytes(1)), 4);
+        due("5 room again", layAndTell(x, 2, bytes(1)), 4);
 
-        x = new FramingTrio();
+        x = new CountedTrio();
         for (int i = 0; i < 4; i++) {
-            tellLength(x, 1, filled(400, 7));
+            layAndTell(x, 1, filled(400, 7));
         }
-        tellLength(x, 1, filled(392, 7));
+        layAndTell(x, 1, filled(392, 7));
         due("5 1997", x.written(), 1997);
-        due("5 way 2 has no room", tellLength(x, 2, bytes(1)), -1);
+        due("5 way 2 has no room", layAndTell(x, 2, bytes(1)), -1);
         due("5 way 0 has room", x.tell(0), 1999);
         due("5 way 0 has none", x.tell(0), -1);
         due("5 1999 stay", x.written(), 1999);
@@ -219,10 +213,10 @@ public final class PromiseTest {
     }
 
     private static void promise6And7Written() {
-        FramingTrio x = new FramingTrio();
-        tellLength(x, 0, bytes(255));
+        CountedTrio x = new CountedTrio();
+        layAndTell(x, 0, bytes(255));
         due("6 written", x.written(), 3);
-        tellLength(x, 1, bytes(200));
+        layAndTell(x, 1, bytes(200));
         due("6 behind", x.written(), 5);
         row("7 all ways in one stream", written(x), bytes(2, 255, 0, 200, 192));
         due("7 -1", x.writtenAt(-1), -1);
@@ -235,9 +229,9 @@ public final class PromiseTest {
     }
 
     private static void promise8Spoil() {
-        FramingTrio x = new FramingTrio();
+        CountedTrio x = new CountedTrio();
         due("8 empty", x.spoil(0, 1), false);
-        tellLength(x, 1, bytes(0x0F, 2));
+        layAndTell(x, 1, bytes(0x0F, 2));
         due("8 spoil", x.spoil(0, 0xFF), true);
         due("8 turned", x.writtenAt(0), 0xF0);
         due("8 mask 0", x.spoil(0, 0), true);
@@ -275,7 +269,7 @@ public final class PromiseTest {
         reads(0, join(bytes(255), x254, bytes(2, 7, 0)), 1, join(x254, bytes(7)));
         reads(0, join(bytes(254), filled(253, 9), bytes(1, 0)), 1, join(filled(253, 9), bytes(0)));
         reads(0, join(bytes(255), filled(253, 9), bytes(0)), 2, null);
-        FramingTrio x = new FramingTrio();
+        CountedTrio x = new CountedTrio();
         send(x, 0, bytes(9, 1, 2));
         due("9 spoilt", x.come(0, 0), 2);
         due("9 nothing harmed", send(x, 0, bytes(2, 5, 0)), 1);
@@ -300,7 +294,7 @@ public final class PromiseTest {
         reads(1, bytes(219, 5, 192), 2, null);
         reads(1, bytes(219, 222, 6, 192), 2, null);
         reads(1, bytes(1, 219, 192), 2, null);
-        FramingTrio x = new FramingTrio();
+        CountedTrio x = new CountedTrio();
         due("9 spoilt", send(x, 1, bytes(219, 192)), 2);
         due("9 empty behind", x.come(1, 192), 0);
         due("9 nothing harmed", send(x, 1, bytes(220, 192)), 1);
@@ -329,11 +323,11 @@ public final class PromiseTest {
         reads(2, join(bytes(125, '1' ^ 32), "23456789".getBytes(), bytes(0x6E, 125, 0x90 ^ 32, 126)), 1,
                 "123456789".getBytes());
         reads(2, join(bytes(125, 125), checkOf(bytes(93)), bytes(126)), 2, null);
-        reads(2, join(bytes(125, 125, 94), escapedCheck(126), bytes(126)), 2, null);
+        reads(2, join(bytes(125, 125, 94), toldCheck(bytes(126)), bytes(126)), 2, null);
         reads(2, join(bytes(125, 125), nine), 2, null);
-        reads(2, join(bytes(125, 93), escapedCheck(125), bytes(126)), 1, bytes(125));
-        reads(2, join(bytes(125, 94), escapedCheck(126), bytes(126)), 1, bytes(126));
-        FramingTrio x = new FramingTrio();
+        reads(2, join(bytes(125, 93), toldCheck(bytes(125)), bytes(126)), 1, bytes(125));
+        reads(2, join(bytes(125, 94), toldCheck(bytes(126)), bytes(126)), 1, bytes(126));
+        CountedTrio x = new CountedTrio();
         due("9 spoilt", send(x, 2, bytes(1, 2, 125, 126)), 2);
         due("9 empty behind", x.come(2, 126), 0);
         due("9 nothing harmed", send(x, 2, nine), 1);
@@ -344,7 +338,7 @@ public final class PromiseTest {
     private static void promise9ComeOversize() {
         byte[][] frames = {bytes(4, 1, 2, 3, 0), bytes(1, 2, 3, 192), join(bytes(1, 2, 3), checkOf(bytes(1, 2, 3)), bytes(126))};
         for (int way = 0; way < 3; way++) {
-            FramingTrio x = new FramingTrio();
+            CountedTrio x = new CountedTrio();
             x.limit(3);
             due("9 at the limit " + way, send(x, way, frames[way]), 1);
             x.limit(2);
@@ -354,7 +348,7 @@ public final class PromiseTest {
             x.limit(3);
             due("9 the mark's limit counts " + way, x.come(way, frames[way][frames[way].length - 1]), 1);
         }
-        FramingTrio x = new FramingTrio();
+        CountedTrio x = new CountedTrio();
         x.limit(1);
         due("9 malformed ahead of oversize 0", send(x, 0, bytes(5, 1, 2, 3, 0)), 2);
         due("9 malformed ahead of oversize 1", send(x, 1, bytes(1, 2, 3, 219, 192)), 2);
@@ -365,27 +359,27 @@ public final class PromiseTest {
         for (int length : new int[] {399, 400, 401, 402, 403, 1000, 9000}) {
             int verdict = length > 400 ? 3 : 1;
             byte[] body = filled(length, 7);
-            due("9 way 0 of " + length, send(new FramingTrio(), 0, join(filled(length + 1, 1), bytes(0))), verdict);
-            due("9 way 0 spoilt " + length, send(new FramingTrio(), 0, join(filled(length + 1, 1), bytes(2, 0))), 2);
-            due("9 way 1 of " + length, send(new FramingTrio(), 1, join(body, bytes(192))), verdict);
-            due("9 way 1 spoilt " + length, send(new FramingTrio(), 1, join(body, bytes(219, 192))), 2);
-            byte[] checked = join(body, escape(checkOf(body)), bytes(126));
-            due("9 way 2 of " + length, send(new FramingTrio(), 2, checked), verdict);
+            due("9 way 0 of " + length, pour(new CountedTrio(), 0, join(filled(length + 1, 1), bytes(0))), verdict);
+            due("9 way 0 spoilt " + length, pour(new CountedTrio(), 0, join(filled(length + 1, 1), bytes(2, 0))), 2);
+            due("9 way 1 of " + length, pour(new CountedTrio(), 1, join(body, bytes(192))), verdict);
+            due("9 way 1 spoilt " + length, pour(new CountedTrio(), 1, join(body, bytes(219, 192))), 2);
+            byte[] checked = join(body, toldCheck(body), bytes(126));
+            due("9 way 2 of " + length, pour(new CountedTrio(), 2, checked), verdict);
             checked[length - 1] ^= 1;
-            due("9 way 2 spoilt " + length, send(new FramingTrio(), 2, checked), 2);
+            due("9 way 2 spoilt " + length, pour(new CountedTrio(), 2, checked), 2);
         }
-        FramingTrio x = new FramingTrio();
-        due("9 oversize", send(x, 1, join(filled(500, 7), bytes(192))), 3);
+        CountedTrio x = new CountedTrio();
+        due("9 oversize", pour(x, 1, join(filled(500, 7), bytes(192))), 3);
         due("9 behind oversize", send(x, 1, bytes(8, 192)), 1);
         row("9 behind oversize", latest(x, 1), bytes(8));
     }
 
     private static void promise10All() {
         for (int way = 0; way < 3; way++) {
-            FramingTrio x = new FramingTrio();
-            tellLength(x, way, bytes(1, 2));
-            tellLength(x, way, bytes(125, 126, 192, 219));
-            tellLength(x, way, bytes(3));
+            CountedTrio x = new CountedTrio();
+            layAndTell(x, way, bytes(1, 2));
+            layAndTell(x, way, bytes(125, 126, 192, 219));
+            layAndTell(x, way, bytes(3));
             for (int no : NO_WAYS) {
                 due("10 no way " + no, x.all(no), -1);
             }
@@ -397,9 +391,9 @@ public final class PromiseTest {
             row("10 latest " + way, latest(x, way), bytes(3));
             due("10 none left " + way, x.all(way), 0);
         }
-        FramingTrio x = new FramingTrio();
+        CountedTrio x = new CountedTrio();
         x.come(0, 4);
-        tellLength(x, 1, bytes(1, 2));
+        layAndTell(x, 1, bytes(1, 2));
         lay(x, bytes(5, 6));
         due("10 to another way's reader", x.all(0), 0);
         due("10 tape stays", x.end(3), false);
@@ -407,19 +401,19 @@ public final class PromiseTest {
         due("10 the chunk goes on", x.come(0, 0), 1);
         row("10 the chunk went on", latest(x, 0), bytes(1, 2, 192));
         x.come(1, 9);
-        tellLength(x, 1, bytes(8));
+        layAndTell(x, 1, bytes(8));
         due("10 behind what came", x.all(1), 1);
         row("10 behind what came", latest(x, 1), bytes(9, 8));
     }
 
     private static void promise11Raw() {
         for (int no : NO_WAYS) {
-            FramingTrio x = new FramingTrio();
+            CountedTrio x = new CountedTrio();
             x.feed(1, 2, 3, 4, 5);
             due("11 no way " + no, x.raw(no), -1);
             due("11 tape empty, too " + no, x.end(1), false);
         }
-        FramingTrio x = new FramingTrio();
+        CountedTrio x = new CountedTrio();
         lay(x, bytes(2, 5, 0, 0, 1, 0, 3, 1));
         due("11 way 0", x.raw(0), 2);
         due("11 malformed", x.count(0, 2), 1);
@@ -433,7 +427,7 @@ public final class PromiseTest {
         due("11 way 2", x.raw(2), 1);
         due("11 way 2 malformed", x.count(2, 2), 1);
         due("11 nothing written", x.written(), 0);
-        tellLength(x, 0, bytes(1));
+        layAndTell(x, 0, bytes(1));
         lay(x, bytes(1, 0));
         due("11 beside what is written", x.raw(0), 1);
         due("11 written stays", x.written(), 3);
@@ -447,7 +441,7 @@ public final class PromiseTest {
     }
 
     private static void promise12And13Latest() {
-        FramingTrio x = new FramingTrio();
+        CountedTrio x = new CountedTrio();
         send(x, 1, bytes(219, 192));
         due("12 none before a good one", x.latest(1), -1);
         due("13 none before a good one", x.latestAt(1, 0), -1);
@@ -482,7 +476,7 @@ public final class PromiseTest {
     }
 
     private static void promise14Count() {
-        FramingTrio x = new FramingTrio();
+        CountedTrio x = new CountedTrio();
         x.limit(2);
         send(x, 1, bytes(192, 1, 192, 2, 192, 3, 192, 219, 192, 219, 192, 1, 2, 3, 192));
         due("14 good", x.count(1, 1), 3);
@@ -497,148 +491,6 @@ public final class PromiseTest {
         }
         for (int what : new int[] {-1, 0, 4, Integer.MIN_VALUE, Integer.MAX_VALUE}) {
             due("14 no such count " + what, x.count(1, what), -1);
-        }
-    }
-
-    private static void tells(int way, byte[] payload, byte[] frame) {
-        FramingTrio x = new FramingTrio();
-        String call = "5 tell(" + way + ") of " + payload.length;
-        due(call, tellLength(x, way, payload), frame.length);
-        row(call, written(x), frame);
-        due(call + " is read", x.all(way), 1);
-        row(call + " is read", latest(x, way), payload);
-    }
-
-    /** The verdict of the last byte, and the payload where the verdict is good. */
-    private static void reads(int way, byte[] stream, int verdict, byte[] payload) {
-        FramingTrio x = new FramingTrio();
-        String call = "9 come(" + way + ") of " + Arrays.toString(stream);
-        due(call, send(x, way, stream), verdict);
-        for (int what = 1; what <= 3; what++) {
-            due(call + " count " + what, x.count(way, what), what == verdict ? 1 : 0);
-        }
-        if (payload == null) {
-            due(call + " latest", x.latest(way), -1);
-        } else {
-            row(call + " latest", latest(x, way), payload);
-        }
-    }
-
-    private static int send(FramingTrio x, int way, byte[] stream) {
-        int verdict = 0;
-        for (byte b : stream) {
-            verdict = x.come(way, b);
-        }
-        return verdict;
-    }
-
-    private static void lay(FramingTrio x, byte[] payload) {
-        byte[] padded = Arrays.copyOf(payload, (payload.length + 19) / 20 * 20);
-        for (int i = 0; i < padded.length; i += 20) {
-            x.feed(number(padded, i), number(padded, i + 4), number(padded, i + 8), number(padded, i + 12),
-                    number(padded, i + 16));
-        }
-        x.end(payload.length);
-    }
-
-    private static int tellLength(FramingTrio x, int way, byte[] payload) {
-        x.end(0);
-        lay(x, payload);
-        return x.tell(way);
-    }
-
-    private static int number(byte[] from, int i) {
-        return (from[i] & 255) << 24 | (from[i + 1] & 255) << 16 | (from[i + 2] & 255) << 8 | from[i + 3] & 255;
-    }
-
-    /** By long division bit by bit over the reflected bits, apart from how the program does it. */
-    private static byte[] checkOf(byte[] payload) {
-        int register = 0xFFFF;
-        for (byte b : payload) {
-            for (int bit = 0; bit < 8; bit++) {
-                int in = (b >> bit & 1) ^ (register >> 15 & 1);
-                register = register << 1 & 0xFFFF ^ (in == 1 ? 0x1021 : 0);
-            }
-        }
-        int check = Integer.reverse(register) >>> 16 ^ 0xFFFF;
-        return bytes(check & 255, check >> 8);
-    }
-
-    private static byte[] escapedCheck(int b) {
-        return escape(checkOf(bytes(b)));
-    }
-
-    private static byte[] escape(byte[] plain) {
-        ByteArrayOutputStream out = new ByteArrayOutputStream();
-        for (byte b : plain) {
-            if (b == 125 || b == 126) {
-                out.write(125);
-                out.write(b ^ 32);
-            } else {
-                out.write(b);
-            }
-        }
-        return out.toByteArray();
-    }
-
-    private static byte[] written(FramingTrio x) {
-        byte[] row = new byte[x.written()];
-        for (int i = 0; i < row.length; i++) {
-            int b = x.writtenAt(i);
-            due("7 a byte", b >= 0 && b <= 255, true);
-            row[i] = (byte) b;
-        }
-        return row;
-    }
-
-    private static byte[] latest(FramingTrio x, int way) {
-        byte[] row = new byte[Math.max(0, x.latest(way))];
-        for (int i = 0; i < row.length; i++) {
-            int b = x.latestAt(way, i);
-            due("13 a byte", b >= 0 && b <= 255, true);
-            row[i] = (byte) b;
-        }
-        return row;
-    }
-
-    private static byte[] bytes(int... values) {
-        byte[] row = new byte[values.length];
-        for (int i = 0; i < row.length; i++) {
-            row[i] = (byte) values[i];
-        }
-        return row;
-    }
-
-    private static byte[] filled(int length, int value) {
-        byte[] row = new byte[length];
-        Arrays.fill(row, (byte) value);
-        return row;
-    }
-
-    private static byte[] join(byte[]... parts) {
-        ByteArrayOutputStream out = new ByteArrayOutputStream();
-        for (byte[] part : parts) {
-            out.write(part, 0, part.length);
-        }
-        return out.toByteArray();
-    }
-
-    private static void due(String call, boolean got, boolean want) {
-        due(call, got ? 1 : 0, want ? 1 : 0);
-    }
-
-    private static void due(String call, int got, int want) {
-        if (got != want) {
-            wrong++;
-            System.out.println("promise " + call + ": answered " + got + ", due is " + want);
-        }
-    }
-
-    private static void row(String call, byte[] got, byte[] want) {
-        if (!Arrays.equals(got, want)) {
-            wrong++;
-            System.out.println("promise " + call + ": answered " + Arrays.toString(got) + ", due is "
-                    + Arrays.toString(want));
         }
     }
 }
