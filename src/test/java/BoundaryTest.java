@@ -20,6 +20,7 @@ public final class BoundaryTest extends FramingTest {
         aboveTheLimitIsOversize();
         malformedAboveTheLimitIsMalformed();
         chunksFarAboveTheLimit();
+        spoiltHarmsNothingBehindTheMark();
         newObjectIsEmpty();
         feedBeyond400();
         endBeyondTapeOrBelow0();
@@ -358,6 +359,27 @@ public final class BoundaryTest extends FramingTest {
         }
         byte[] full = join(bytes(255), counting(254));
         due("two groups of 254", pour(new CountedTrio(), 0, join(full, full, bytes(0))), 3);
+    }
+
+    private static void spoiltHarmsNothingBehindTheMark() {
+        about("What it is: \"what is spoilt harms nothing behind the next mark\"");
+        byte[][][] spoilt = {
+            {bytes(0), bytes(9, 0), bytes(9, 5, 0), bytes(2, 5, 2, 0), join(bytes(255), counting(253), bytes(0))},
+            {bytes(219, 192), bytes(219, 5, 192), bytes(5, 219, 219, 192), bytes(219, 5, 219, 192)},
+            {bytes(5, 126), bytes(0, 0, 126), bytes(125, 126), bytes(125, 125, 126), bytes(5, 6, 7, 125, 126),
+                bytes(125, 125, 5, 6, 7, 126), join(counting(100), bytes(126))}};
+        for (int way = 0; way < 3; way++) {
+            for (byte[] chunk : spoilt[way]) {
+                CountedTrio x = new CountedTrio();
+                byte[] good = frameOf(way, bytes(220, 93, 1));
+                due("ahead", send(x, way, good), 1);
+                due("spoilt " + Arrays.toString(chunk), send(x, way, chunk), 2);
+                row("latest behind it", latest(x, way), bytes(220, 93, 1));
+                due("good behind " + Arrays.toString(chunk), send(x, way, frameOf(way, bytes(221, 94))), 1);
+                row("its payload", latest(x, way), bytes(221, 94));
+                counts(x, way, 2, 1, 0);
+            }
+        }
     }
 
     private static void newObjectIsEmpty() {
