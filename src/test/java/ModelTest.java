@@ -4,11 +4,12 @@ import java.util.List;
 import java.util.Random;
 
 /**
- * Mixed runs of 512 calls, each answer beside that of a plain model. The model keeps whole chunks
- * and judges them at the mark, where the program decodes as it reads.
+ * Mixed runs of 512 calls, on one object alone and on two in turn, each answer beside that of a plain
+ * model. The model keeps whole chunks and judges them at the mark, where the program decodes as it reads.
  */
 public final class ModelTest extends FramingTest {
-    private static final int RUNS = 6000;
+    private static final int RUNS_ALONE = 4000;
+    private static final int RUNS_IN_TURN = 1000;
     private static final int WRONG_ENOUGH = 20;
     /** What comparing all but single bytes needs at a run's end. */
     private static final int CALLS_TO_COMPARE = 31;
@@ -19,8 +20,11 @@ public final class ModelTest extends FramingTest {
 
     public static void main(String[] args) {
         about("run/call");
-        for (int run = 0; run < RUNS && wrongAnswers() < WRONG_ENOUGH; run++) {
-            runBeside(run);
+        for (int run = 0; run < RUNS_ALONE && wrongAnswers() < WRONG_ENOUGH; run++) {
+            runAlone(run);
+        }
+        for (int run = 0; run < RUNS_IN_TURN && wrongAnswers() < WRONG_ENOUGH; run++) {
+            runInTurn(run);
         }
         for (int verdict = 0; verdict < 4; verdict++) {
             due("verdict " + verdict + " came often", VERDICTS_SEEN[verdict] >= 1000, true);
@@ -28,87 +32,126 @@ public final class ModelTest extends FramingTest {
         finish();
     }
 
-    private static void runBeside(int seed) {
-        Random random = new Random(seed);
-        CountedTrio x = new CountedTrio();
-        Model m = new Model();
-        int taste = random.nextInt(4);
-        int callsLeftAtEnd = CALLS_TO_COMPARE + random.nextInt(300);
-        for (int call = 0; x.callsLeft() > callsLeftAtEnd && wrongAnswers() < WRONG_ENOUGH; call++) {
-            oneCall(random, x, m, taste, seed + "/" + call);
+    private static void runAlone(int seed) {
+        Run run = new Run(seed, String.valueOf(seed));
+        while (run.goesOn()) {
+            run.oneCall();
         }
-        compareState(random, x, m, "at the end of " + seed);
+        run.compareState();
     }
 
-    private static void oneCall(Random random, CountedTrio x, Model m, int taste, String at) {
-        int way = random.nextInt(30) == 0 ? ODD[random.nextInt(4)] : random.nextInt(3);
-        switch (random.nextInt(16)) {
-            case 0, 1, 2, 3, 4 -> {
-                int[] n = new int[5];
-                for (int i = 0; i < 5; i++) {
-                    n[i] = number(random, taste);
-                }
-                due(at + " feed", x.feed(n[0], n[1], n[2], n[3], n[4]), m.feed(n));
+    private static void runInTurn(int seed) {
+        Random turns = new Random(seed);
+        Run one = new Run(2 * seed, "one of " + seed);
+        Run other = new Run(2 * seed + 1, "other of " + seed);
+        while (one.goesOn() || other.goesOn()) {
+            Run next = turns.nextBoolean() ? one : other;
+            if (next.goesOn()) {
+                next.oneCall();
             }
-            case 5 -> {
-                int n = random.nextInt(10) == 0 ? ODD[random.nextInt(4)] : m.tape.size() - random.nextInt(22) + 1;
-                due(at + " end", x.end(n), m.end(n));
-            }
-            case 6 -> {
-                int n = random.nextInt(3) == 0 ? 398 + random.nextInt(5) : random.nextInt(60) - 1;
-                due(at + " limit", x.limit(n), m.limit(n));
-            }
-            case 7, 8 -> due(at + " tell " + way, x.tell(way), m.tell(way));
-            case 9 -> {
-                int i = random.nextInt(m.stream.size() + 3) - 1;
-                int mask = random.nextBoolean() ? random.nextInt() : 0;
-                due(at + " spoil " + i, x.spoil(i, mask), m.spoil(i, mask));
-            }
-            case 10, 11 -> {
-                int b = random.nextBoolean() ? mark(way) : oneByte(random, taste) - 256 * random.nextInt(3);
-                int verdict = m.come(way, b);
-                due(at + " come " + way + " " + b, x.come(way, b), verdict);
-                VERDICTS_SEEN[Math.max(0, verdict)]++;
-            }
-            case 12 -> {
-                if (random.nextInt(3) == 0) {
-                    due(at + " all " + way, x.all(way), m.all(way));
-                }
-            }
-            case 13 -> {
-                if (random.nextInt(3) == 0) {
-                    due(at + " raw " + way, x.raw(way), m.raw(way));
-                }
-            }
-            case 14 -> {
-                int what = random.nextInt(6) - 1;
-                due(at + " count " + way + " " + what, x.count(way, what), m.count(way, what));
-            }
-            default -> compareOneByte(random, x, m, at);
         }
+        one.compareState();
+        other.compareState();
     }
 
-    private static void compareState(Random random, CountedTrio x, Model m, String at) {
-        due(at + " written", x.written(), m.stream.size());
-        for (int way = -1; way <= 3; way++) {
-            due(at + " latest " + way, x.latest(way), m.latest(way));
-            for (int what = 0; what <= 4; what++) {
-                due(at + " count " + way + " " + what, x.count(way, what), m.count(way, what));
+    /** An object and its model, and the calls that chance brings to both. */
+    private static final class Run {
+        private final Random random;
+        private final String name;
+        private final CountedTrio x = new CountedTrio();
+        private final Model m = new Model();
+        private final int taste;
+        private final int callsLeftAtEnd;
+        private int steps = 0;
+
+        Run(int seed, String name) {
+            random = new Random(seed);
+            this.name = name;
+            taste = random.nextInt(4);
+            callsLeftAtEnd = CALLS_TO_COMPARE + random.nextInt(300);
+        }
+
+        boolean goesOn() {
+            return x.callsLeft() > callsLeftAtEnd && wrongAnswers() < WRONG_ENOUGH;
+        }
+
+        void oneCall() {
+            String at = name + "/" + steps;
+            steps++;
+            int way = random.nextInt(30) == 0 ? ODD[random.nextInt(4)] : random.nextInt(3);
+            switch (random.nextInt(16)) {
+                case 0, 1, 2, 3, 4 -> feed(at);
+                case 5 -> {
+                    int n = random.nextInt(10) == 0 ? ODD[random.nextInt(4)] : m.tape.size() - random.nextInt(22) + 1;
+                    due(at + " end", x.end(n), m.end(n));
+                }
+                case 6 -> {
+                    int n = random.nextInt(3) == 0 ? 398 + random.nextInt(5) : random.nextInt(60) - 1;
+                    due(at + " limit", x.limit(n), m.limit(n));
+                }
+                case 7, 8 -> due(at + " tell " + way, x.tell(way), m.tell(way));
+                case 9 -> {
+                    int i = random.nextInt(m.stream.size() + 3) - 1;
+                    int mask = random.nextBoolean() ? random.nextInt() : 0;
+                    due(at + " spoil " + i, x.spoil(i, mask), m.spoil(i, mask));
+                }
+                case 10, 11 -> come(way, at);
+                case 12 -> {
+                    if (random.nextInt(3) == 0) {
+                        due(at + " all " + way, x.all(way), m.all(way));
+                    }
+                }
+                case 13 -> {
+                    if (random.nextInt(3) == 0) {
+                        due(at + " raw " + way, x.raw(way), m.raw(way));
+                    }
+                }
+                case 14 -> {
+                    int what = random.nextInt(6) - 1;
+                    due(at + " count " + way + " " + what, x.count(way, what), m.count(way, what));
+                }
+                default -> compareOneByte(at);
             }
         }
-        while (x.callsLeft() > 0) {
-            compareOneByte(random, x, m, at);
-        }
-    }
 
-    private static void compareOneByte(Random random, CountedTrio x, Model m, String at) {
-        int way = random.nextInt(5) - 1;
-        if (way == 3) {
-            int i = random.nextInt(m.stream.size() + 2) - 1;
-            due(at + " writtenAt " + i, x.writtenAt(i), at(m.stream, i));
-        } else {
-            int i = random.nextInt(Math.max(0, m.latest(way)) + 2) - 1;
-            due(at + " latestAt " + way + " " + i, x.latestAt(way, i), m.latestAt(way, i));
+        private void feed(String at) {
+            int[] n = new int[5];
+            for (int i = 0; i < 5; i++) {
+                n[i] = number(random, taste);
+            }
+            due(at + " feed", x.feed(n[0], n[1], n[2], n[3], n[4]), m.feed(n));
+        }
+
+        private void come(int way, String at) {
+            int b = random.nextBoolean() ? mark(way) : oneByte(random, taste) - 256 * random.nextInt(3);
+            int verdict = m.come(way, b);
+            due(at + " come " + way + " " + b, x.come(way, b), verdict);
+            VERDICTS_SEEN[Math.max(0, verdict)]++;
+        }
+
+        void compareState() {
+            String at = "at the end of " + name;
+            due(at + " written", x.written(), m.stream.size());
+            for (int way = -1; way <= 3; way++) {
+                due(at + " latest " + way, x.latest(way), m.latest(way));
+                for (int what = 0; what <= 4; what++) {
+                    due(at + " count " + way + " " + what, x.count(way, what), m.count(way, what));
+                }
+            }
+            while (x.callsLeft() > 0) {
+                compareOneByte(at);
+            }
+        }
+
+        private void compareOneByte(String at) {
+            int way = random.nextInt(5) - 1;
+            if (way == 3) {
+                int i = random.nextInt(m.stream.size() + 2) - 1;
+                due(at + " writtenAt " + i, x.writtenAt(i), at(m.stream, i));
+            } else {
+                int i = random.nextInt(Math.max(0, m.latest(way)) + 2) - 1;
+                due(at + " latestAt " + way + " " + i, x.latestAt(way, i), m.latestAt(way, i));
+            }
         }
     }
 

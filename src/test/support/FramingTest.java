@@ -35,6 +35,10 @@ abstract class FramingTest {
         report(got == want, call, String.valueOf(got), String.valueOf(want));
     }
 
+    static void due(String call, String got, String want) {
+        report(got.equals(want), call, got, want);
+    }
+
     static void row(String call, byte[] got, byte[] want) {
         report(Arrays.equals(got, want), call, Arrays.toString(got), Arrays.toString(want));
     }
